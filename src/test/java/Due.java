@@ -2,8 +2,14 @@
 final class Due {
     private static int right = 0;
     private static int wrong = 0;
+    private static String sentence = "";
 
     private Due() {
+    }
+
+    /** Names the sentence of the document that the comparisons behind this look at. */
+    static void sentence(String words) {
+        sentence = words + " | ";
     }
 
     static void is(String call, long got, long want) {
@@ -20,6 +26,10 @@ final class Due {
         tell(holds, what, "no", "yes");
     }
 
+    static void same(String what, String got, String want) {
+        tell(got.equals(want), what, got, want);
+    }
+
     private static void tell(boolean same, String call, String got, String want) {
         if (same) {
             right++;
@@ -27,7 +37,7 @@ final class Due {
         }
         wrong++;
         if (wrong <= 40) {
-            System.out.println(call + " answered " + got + ", due is " + want);
+            System.out.println(sentence + call + " answered " + got + ", due is " + want);
         }
     }
 
