@@ -124,7 +124,7 @@ public final class HistoryTest {
         x.addStream(77);
         x.addPump(9, 8);
         x.switchPump(0, true);
-        String empty = told(x);
+        String empty = Look.state(x);
         x.keep();
         x.setTide(0, Due.bits(3.0));
         x.setTide(2, Due.bits(-0.0));
@@ -146,35 +146,17 @@ public final class HistoryTest {
         x.vote(1, true);
         x.switchPump(1, true);
         x.setStream(0, 78);
-        String full = told(x);
+        String full = Look.state(x);
         Due.that("states differ", !full.equals(empty));
         x.restore();
-        Due.that("21: all is as it was kept", told(x).equals(empty));
+        Due.that("21: all is as it was kept", Look.state(x).equals(empty));
         x.undo();
-        Due.that("19: all is as it was before", told(x).equals(full));
+        Due.that("19: all is as it was before", Look.state(x).equals(full));
         x.keep();
         x.service(0);
         x.vote(0, false);
         x.pass(5);
         x.restore();
-        Due.that("21: all is as it was kept then", told(x).equals(full));
-    }
-
-    private static String told(FloodBarrier x) {
-        StringBuilder all = new StringBuilder();
-        for (int i = 0; i < 8; i++) {
-            for (int what = 0; what < 6; what++) {
-                all.append(x.section(i, what)).append(' ').append(x.pump(i, what)).append(' ');
-            }
-        }
-        for (int what = 0; what < 24; what++) {
-            all.append(x.level(what)).append(' ').append(x.water(what)).append(' ');
-            all.append(x.tide(what)).append(' ');
-            all.append(what == 15 ? 0 : x.count(what)).append(' ');
-        }
-        for (int hours = 0; hours < 49; hours++) {
-            all.append(x.forecast(hours)).append(' ');
-        }
-        return all.append(x.shutIn()).toString();
+        Due.that("21: all is as it was kept then", Look.state(x).equals(full));
     }
 }

@@ -89,6 +89,14 @@ public final class RulesTest {
 
     /** Once its rows are made, no call makes an object: the room of a run is small. */
     private static void room() {
+        long made = 0;
+        for (int i = 0; i < 100; i++) {
+            made += bytesMadeByCalls();
+        }
+        Due.that("40000 calls make no objects, but made " + made + " bytes", made < 100000);
+    }
+
+    private static long bytesMadeByCalls() {
         FloodBarrier x = Due.willing();
         x.addSection(5, Due.bits(1.0), 2, 2);
         x.addPump(1, 1);
@@ -98,11 +106,10 @@ public final class RulesTest {
                 (com.sun.management.ThreadMXBean) ManagementFactory.getThreadMXBean();
         long thread = Thread.currentThread().getId();
         long before = threads.getThreadAllocatedBytes(thread);
-        for (int i = 0; i < 2000; i++) {
+        for (int i = 0; i < 18; i++) {
             useAll(x);
         }
-        long made = threads.getThreadAllocatedBytes(thread) - before;
-        Due.that("50000 calls make no objects, but made " + made + " bytes", made < 100000);
+        return threads.getThreadAllocatedBytes(thread) - before;
     }
 
     private static void useAll(FloodBarrier x) {

@@ -1,9 +1,10 @@
 import java.util.Random;
 
-/** Long runs of calls, chosen by a fixed seed, each answered by the program and by the model. */
+/** Runs of calls, chosen by a fixed seed, each answered by the program and by the model. */
 public final class RunsAgainstModelTest {
-    private static final int RUNS = 6000;
-    private static final int CALLS = 250;
+    private static final int RUNS = 20000;
+    /** With those of compareAll() they are fewer than 512, behind which nothing is promised. */
+    private static final int MOST_CALLS = 240;
     private static final String SIGNS = "0123456789.,-";
 
     private static final double[] LEVELS = {-5.0, -4.9, -1.3, -0.0, 0.0, 0.1, 0.7, 1.0, 1.999, 2.0,
@@ -19,6 +20,7 @@ public final class RunsAgainstModelTest {
     private final FloodBarrier program = new FloodBarrier();
     private final Model model = new Model();
     private final int run;
+    private int calls = 0;
 
     private RunsAgainstModelTest(int run) {
         this.run = run;
@@ -31,12 +33,11 @@ public final class RunsAgainstModelTest {
             if (run % 3 != 0) {
                 test.build();
             }
-            for (int i = 0; i < CALLS; i++) {
+            int most = MOST_CALLS - test.random.nextInt(MOST_CALLS / 2);
+            while (test.calls < most) {
                 test.call(test.random.nextInt(38));
-                if (i % 25 == 24) {
-                    test.compareAll();
-                }
             }
+            test.compareAll();
         }
         Due.end();
     }
@@ -82,10 +83,12 @@ public final class RunsAgainstModelTest {
     }
 
     private void is(String call, long got, long want) {
+        calls++;
         Due.is("run " + run + ": " + call, got, want);
     }
 
     private void is(String call, double got, double want) {
+        calls++;
         Due.is("run " + run + ": " + call, got, want);
     }
 

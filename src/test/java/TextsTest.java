@@ -122,9 +122,10 @@ public final class TextsTest {
     }
 
     private static void everyLevel() {
-        FloodBarrier x = new FloodBarrier();
         for (int v = -50; v < 100; v++) {
+            FloodBarrier x = new FloodBarrier();
             String text = (v < 0 ? "-" : "") + Math.abs(v) / 10 + "." + Math.abs(v) % 10;
+            x.setTide(0, Due.bits(3.21));
             Due.write(x, text);
             Due.is("18: " + text, x.readTides(0), 1);
             Due.is("18: bits of " + text, x.tide(0), Due.bits((double) v / 10.0));
