@@ -43,7 +43,7 @@ public final class FloodBarrier {
             return FULL;
         }
         history.record(now);
-        return now.sections.add(width, crest, hours, life);
+        return now.sections.add(width, Levels.ofBits(crest), hours, life);
     }
 
     public int addDistrict(int weight) {
@@ -451,8 +451,8 @@ public final class FloodBarrier {
     }
 
     /**
-     * Levels by their bits. A state keeps levels as bits alone, since tide() tells the bits (-0.0
-     * has its own) and the library that we may use has no Double.
+     * Levels by their bits. A state keeps tides and the alarm as bits, since tide() tells the bits
+     * (-0.0 has its own) and the library that we may use has no Double.
      */
     private static final class Levels {
         static final int LOWEST_TENTHS = -50;
@@ -480,9 +480,19 @@ public final class FloodBarrier {
             return bits == others || ((bits | others) & ~SIGN) == 0;
         }
 
-        /** The level of bits that isLevel allows; each division is exact. */
+        /** The level of bits that isLevel allows. */
         static double ofBits(long bits) {
-            int exponent = (int) ((bits & ~SIGN) >>> FRACTION_BITS);
+            double size = sizeOf(bits & ~SIGN);
+            return bits < 0 ? -size : size;
+        }
+
+        /** The level of bits without a sign; each division is exact. */
+        private static double sizeOf(long bits) {
+            // Most tides are never set, and a 0 would take the longest way through the halvings.
+            if (bits == 0) {
+                return 0.0;
+            }
+            int exponent = (int) (bits >>> FRACTION_BITS);
             long fraction = bits & FRACTION;
             long whole = exponent == 0 ? fraction : fraction | HIDDEN_BIT;
             int halvings = WHOLE_EXPONENT - Math.max(exponent, 1);
@@ -490,8 +500,7 @@ public final class FloodBarrier {
             for (; halvings > 32; halvings -= 32) {
                 size = size / (double) (1L << 32);
             }
-            size = size / (double) (1L << halvings);
-            return bits < 0 ? -size : size;
+            return size / (double) (1L << halvings);
         }
 
         /** The bits of (double) tenths / 10.0; tenths is above -100 and below 100. */
@@ -601,7 +610,7 @@ public final class FloodBarrier {
 
         int many;
         final int[] width = new int[MOST];
-        final long[] crest = new long[MOST];
+        final double[] crest = new double[MOST];
         final int[] hours = new int[MOST];
         final int[] life = new int[MOST];
         final int[] condition = new int[MOST];
@@ -630,7 +639,7 @@ public final class FloodBarrier {
         }
 
         /** Only called when it is not full; tells the number of the new section. */
-        int add(int itsWidth, long itsCrest, int itsHours, int itsLife) {
+        int add(int itsWidth, double itsCrest, int itsHours, int itsLife) {
             int section = many;
             width[section] = itsWidth;
             crest[section] = itsCrest;
@@ -740,9 +749,8 @@ public final class FloodBarrier {
                 }
             }
             for (int i = 0; i < many; i++) {
-                double top = Levels.ofBits(crest[i]);
-                if (isClosed(i) && top < outer) {
-                    basin.flowOver((long) (width[i] * 450.0 * (outer - top)));
+                if (isClosed(i) && crest[i] < outer) {
+                    basin.flowOver((long) (width[i] * 450.0 * (outer - crest[i])));
                 }
             }
         }
